@@ -821,7 +821,6 @@ public final class LentTools {
         int place;
         /** Where the number or word that was looked at last begins. */
         int began;
-        private int wordEnd;
         int fault;
 
         void open(int[] tape, int tapeLength) {
@@ -890,11 +889,11 @@ public final class LentTools {
             return value;
         }
 
-        /** Which of these words (each with a blank behind it) comes next, or NONE; it isn't passed. */
-        private int wordAmong(String words) {
+        /** Passes the next word if it is one of these (each with a blank behind it): which, or NONE. */
+        int passWord(String words) {
             sign();
             began = place;
-            wordEnd = place;
+            int wordEnd = place;
             while (wordEnd < length && isLetter(bytes[wordEnd])) {
                 wordEnd++;
             }
@@ -905,6 +904,7 @@ public final class LentTools {
                     // NONE marks a word that has already shown to be another one.
                     at = at != NONE && at < wordEnd && bytes[at] == words.charAt(i) ? at + 1 : NONE;
                 } else if (at == wordEnd) {
+                    place = wordEnd;
                     return number;
                 } else {
                     number++;
@@ -912,15 +912,6 @@ public final class LentTools {
                 }
             }
             return NONE;
-        }
-
-        /** Passes the next word if it is one of these: which, or NONE. */
-        int passWord(String words) {
-            int number = wordAmong(words);
-            if (number != NONE) {
-                place = wordEnd;
-            }
-            return number;
         }
 
         int expectWord(String words) {
@@ -1077,26 +1068,17 @@ public final class LentTools {
             expected = CLAUSE;
             // Each turn but the last passes a byte at least.
             for (int i = 0; i <= TAPE_MOST && expected != NOTHING && text.isSound(); i++) {
-                readNext(text);
+                if (expected == CLAUSE) {
+                    readLend(text);
+                } else if (expected == FACT) {
+                    readFact(text);
+                } else if (expected == VALUE) {
+                    readValue(text);
+                } else {
+                    readJoint(text);
+                }
             }
             return text.isSound() ? new Rule(Arrays.copyOf(steps, length)) : null;
-        }
-
-        private void readNext(Text text) {
-            switch (expected) {
-                case CLAUSE:
-                    readLend(text);
-                    break;
-                case FACT:
-                    readFact(text);
-                    break;
-                case VALUE:
-                    readValue(text);
-                    break;
-                default:
-                    readJoint(text);
-                    break;
-            }
         }
 
         private void readLend(Text text) {
@@ -1316,26 +1298,19 @@ public final class LentTools {
 
         void lendAll(Village village) {
             for (int tool = 0; tool < village.tools(); tool++) {
-                int house = bestHouse(village, tool);
-                if (house != NONE) {
-                    village.lendTo(tool, house);
-                }
-            }
-        }
-
-        private int bestHouse(Village village, int tool) {
-            int best = NONE;
-            long greatest = 0;
-            for (int house = 0; house < village.houses(); house++) {
-                if (village.canLend(tool, house)) {
-                    long sum = sumFor(village, tool, house);
+                int best = NONE;
+                long greatest = 0;
+                for (int house = 0; house < village.houses(); house++) {
+                    long sum = village.canLend(tool, house) ? sumFor(village, tool, house) : 0;
                     if (sum > greatest) {
                         greatest = sum;
                         best = house;
                     }
                 }
+                if (best != NONE) {
+                    village.lendTo(tool, best);
+                }
             }
-            return best;
         }
 
         private long sumFor(Village village, int tool, int house) {
@@ -1659,7 +1634,8 @@ public final class LentTools {
         private final int[] reached = new int[Village.MOST];
 
         void findShortest(Village village) {
-            for (length = 2; length <= village.houses(); length++) {
+            for (int wanted = 2; wanted <= village.houses(); wanted++) {
+                length = wanted;
                 for (int least = 0; least < village.houses(); least++) {
                     row[0] = least;
                     if (closes(village, least, 1 << least, 1)) {
