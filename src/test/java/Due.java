@@ -1,21 +1,35 @@
 /** What the tests share: telling a text, and comparing an answer with the one that is due. */
 final class Due {
+    private String sentence = "";
     private int passed;
     private int failed;
 
+    /** The sentence of the document that the next answers belong to. */
+    void sentence(String of) {
+        sentence = of;
+    }
+
     void is(String call, long got, long want) {
-        if (got == want) {
-            passed++;
-        } else {
-            failed++;
-            if (failed <= 40) {
-                System.out.println(call + " answered " + got + ", due is " + want);
-            }
-        }
+        report(got == want, call + " answered " + got + ", due is " + want);
     }
 
     void is(String call, boolean got, boolean want) {
         is(call, got ? 1 : 0, want ? 1 : 0);
+    }
+
+    void is(String call, String got, String want) {
+        report(got.equals(want), call + " answered " + got + ", due is " + want);
+    }
+
+    private void report(boolean right, String words) {
+        if (right) {
+            passed++;
+            return;
+        }
+        failed++;
+        if (failed <= 40) {
+            System.out.println(sentence.isEmpty() ? words : "[" + sentence + "] " + words);
+        }
     }
 
     /** The five numbers of the text's bytes from a place on, zeros behind its end. */
@@ -46,6 +60,13 @@ final class Due {
     static int rule(LentTools x, String text) {
         tell(x, text);
         return x.rule();
+    }
+
+    /** A new object with this village. */
+    static LentTools of(String village) {
+        LentTools x = new LentTools();
+        village(x, village);
+        return x;
     }
 
     /** What village() and rule() answer to a fault. */

@@ -12,6 +12,7 @@ public final class RandomRunsTest {
     private final long seed;
     private final LentTools x = new LentTools();
     private final Oracle y = new Oracle();
+    private int made;
 
     private RandomRunsTest(Due due, long seed) {
         this.due = due;
@@ -196,6 +197,7 @@ public final class RandomRunsTest {
     // ---- calls
 
     private void both(String call, long got, long want) {
+        made++;
         due.is("seed " + seed + ": " + call, got, want);
     }
 
@@ -217,7 +219,10 @@ public final class RandomRunsTest {
 
     private void run() {
         int calls = 60 + below(400);
-        for (int i = 0; i < calls; i++) {
+        boolean late = below(10) == 0;
+        // No more than 512 calls: what is left at the end are a text and the counts.
+        for (int i = 0; i < calls && made < 470; i++) {
+            if (i == 6 && late) runToTheLastDays();
             int kind = below(100);
             if (i < 6 || kind < 4) {
                 if (i == 0 && below(8) > 0 || i > 0 && below(3) == 0) tellVillage();
@@ -229,6 +234,12 @@ public final class RandomRunsTest {
             }
         }
         for (int what = -1; what <= 12; what++) both("count(" + what + ")", x.count(what), y.count(what));
+    }
+
+    private void runToTheLastDays() {
+        for (int i = 0; i < 16; i++) both("run(0, 60)", x.run(0, 60), y.run(0, 60));
+        int n = 20 + below(20);
+        both("run(0, " + n + ")", x.run(0, n), y.run(0, n));
     }
 
     private void act() {
