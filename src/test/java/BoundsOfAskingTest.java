@@ -685,25 +685,32 @@ public final class BoundsOfAskingTest {
         LentTools y = Due.of("village 4 20;tool 0 0 0;trust 0 1;trust 0 3;work 1 0 1 5");
         y.seed(MAX_VALUE);
         is("the last number", y.harvests(1, 1, 1), 0);
+        DUE.sentence("on each, by numbers, of each TOOL a DRAW mod one more than HOUSES there are");
         // Each of the six trusts each other one: any house but the owner and the holder is a loan.
         for (int seed : new int[] {0, 1, 2, 65535, 1 << 30, MAX_VALUE - 1, MAX_VALUE}) {
-            LentTools z = Due.of("village 6 20;tool 0 0 0" + ALL_TRUST);
-            z.seed(seed);
-            is("loans from " + seed, z.harvests(2, 60, 1), loans(seed, 2, 60));
+            for (int tools = 1; tools <= 6; tools++) {
+                StringBuilder text = new StringBuilder("village 6 20");
+                for (int tool = 0; tool < tools; tool++) text.append(";tool" + tool + " 0 0");
+                LentTools z = Due.of(text + ALL_TRUST);
+                z.seed(seed);
+                is(tools + " tools from " + seed, z.harvests(2, 60, 1), loans(seed, 2, 60, tools));
+            }
         }
     }
 
-    private static int loans(long x, int m, int n) {
+    /** The tool of each number is of the house of that number. */
+    private static int loans(long x, int m, int n, int tools) {
         int loans = 0;
         for (int time = 0; time < m; time++) {
-            long holder = 0;
-            for (int day = 0; day < n; day++) {
+            long[] holders = {0, 1, 2, 3, 4, 5};
+            for (int i = 0; i < n * tools; i++) {
+                int tool = i % tools;
                 x = (x * 1103515245L + 12345L) & 0x7fffffffL;
                 long to = (x >> 16) % 7;
                 if (to == 6) {
-                    holder = 0;
-                } else if (to != 0 && to != holder) {
-                    holder = to;
+                    holders[tool] = tool;
+                } else if (to != tool && to != holders[tool]) {
+                    holders[tool] = to;
                     loans++;
                 }
             }

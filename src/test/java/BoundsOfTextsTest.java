@@ -15,6 +15,7 @@ public final class BoundsOfTextsTest {
         villageClauses();
         villageOnceAndFirst();
         villageNumbers();
+        numbersOfClauses();
         villageHouses();
         anotherHouse();
         toldAgain();
@@ -231,6 +232,23 @@ public final class BoundsOfTextsTest {
         is("none", x.house(0, 1, 1), 0);
         is("nine", x.house(1, 0, 1), 9);
         badVillage("village 2 1;thanks 0 1 ^10", 1);
+    }
+
+    private static void numbersOfClauses() {
+        DUE.sentence("village NUMBER NUMBER | tool NUMBER NUMBER NUMBER | trust .. | work .. | thanks ..: no fewer, no more");
+        String head = "village 6 20;";
+        for (String clause : new String[] {"village 2 1", "tool 0 1 2", "trust 0 1", "work 0 1 2 3", "thanks 0 1 2"}) {
+            String before = clause.startsWith("village") ? "" : head;
+            village(before + clause, clause.startsWith("tool") ? 1 : 0);
+            badVillage(before + clause + " ^1", 0);
+            badVillage(before + clause + "^x", 0);
+            for (int at = clause.length() - 2; at > 0; at = clause.lastIndexOf(' ', at - 1)) {
+                badVillage(before + clause.substring(0, at) + "^", 0);
+                badVillage(before + clause.substring(0, at) + " ^;tool 0 0 0", 0);
+                badVillage(before + clause.substring(0, at) + " ^-1", 0);
+                badVillage(before + clause.substring(0, at) + " ^123456", 1);
+            }
+        }
     }
 
     private static void villageHouses() {
