@@ -11,7 +11,7 @@ import java.util.stream.Stream;
 public final class ReadmeTest {
     private static final Due DUE = new Due();
     private static final String MAKES = "LentTools x = new LentTools();";
-    private static final Pattern CALL = Pattern.compile("x\\.(\\w+)\\((.*)\\); +// (-?\\d+): .*");
+    private static final Pattern CALL = Pattern.compile("x\\.(\\w+)\\((.*)\\); +// (-?\\d+|true|false): .*");
     private static final Pattern TOLD = Pattern.compile("tell\\(x, (.*)\\);");
 
     public static void main(String[] args) throws Exception {
@@ -25,6 +25,8 @@ public final class ReadmeTest {
         for (Method m : LentTools.class.getDeclaredMethods()) {
             if (java.lang.reflect.Modifier.isPublic(m.getModifiers())) {
                 DUE.is("README.md names " + m.getName(), page.contains("`" + m.getName() + "`"), true);
+                DUE.is("README.md shows " + m.getName(), page.contains(" x." + m.getName() + "(")
+                        || page.contains("\nx." + m.getName() + "("), true);
             }
         }
         for (Path test : tests()) {
@@ -49,7 +51,7 @@ public final class ReadmeTest {
             Matcher call = CALL.matcher(line.strip());
             Matcher told = TOLD.matcher(line.strip());
             if (call.matches()) {
-                DUE.is("README.md: " + line, answer(x, call.group(1), call.group(2)), Long.parseLong(call.group(3)));
+                DUE.is("README.md: " + line, answer(x, call.group(1), call.group(2)), call.group(3));
                 calls++;
             } else if (told.matches()) {
                 Due.tell(x, told.group(1).replace("\"", ""));
@@ -60,7 +62,7 @@ public final class ReadmeTest {
         DUE.is("README.md's calls", calls > 30, true);
     }
 
-    private static long answer(LentTools x, String name, String told) throws Exception {
+    private static String answer(LentTools x, String name, String told) throws Exception {
         List<Class<?>> types = new ArrayList<>();
         List<Object> values = new ArrayList<>();
         for (String value : told.isEmpty() ? new String[0] : told.split(", ")) {
@@ -69,7 +71,6 @@ public final class ReadmeTest {
             values.add(isNumber ? (Object) Integer.valueOf(value) : Boolean.valueOf(value));
         }
         Method m = LentTools.class.getMethod(name, types.toArray(new Class<?>[0]));
-        Object got = m.invoke(x, values.toArray());
-        return got instanceof Boolean held ? (held ? 1 : 0) : (Integer) got;
+        return m.invoke(x, values.toArray()).toString();
     }
 }
